@@ -107,12 +107,13 @@ public final class Stepsdown {
             if (size != other.size) {
                 return size < other.size ? -1 : 1;
             }
-            for (int place = size - 1; place >= 0; place--) {
-                if (at(place) != other.at(place)) {
-                    return at(place) < other.at(place) ? -1 : 1;
+            int difference = 0;
+            for (int place = size - 1; place >= 0 && difference == 0; place--) {
+                if (place < digits.length && place < other.digits.length) {
+                    difference = digits[place] - other.digits[place];
                 }
             }
-            return 0;
+            return difference == 0 ? 0 : difference < 0 ? -1 : 1;
         }
 
         int order(Big other) {
@@ -261,9 +262,11 @@ public final class Stepsdown {
         /** Takes guess times under off it from place on; tells the guess, one less if it was too much. */
         private long takeTimes(Big under, long guess, int place) {
             int end = Math.min(place + under.size + 1, digits.length);
+            int[] part = under.digits;
             long borrow = 0;
             for (int at = Math.max(0, place); at < end; at++) {
-                long value = digits[at] - guess * under.at(at - place) - borrow;
+                long size = at - place < under.size && at - place < part.length ? part[at - place] : 0;
+                long value = digits[at] - guess * size - borrow;
                 long digit = Math.floorMod(value, (long) BASE);
                 digits[at] = (int) digit;
                 borrow = (digit - value) / BASE;
@@ -273,7 +276,8 @@ public final class Stepsdown {
             }
             int carry = 0;
             for (int at = Math.max(0, place); at < end; at++) {
-                int sum = digits[at] + under.at(at - place) + carry;
+                int size = at - place < under.size && at - place < part.length ? part[at - place] : 0;
+                int sum = digits[at] + size + carry;
                 carry = sum >= BASE ? 1 : 0;
                 digits[at] = sum - carry * BASE;
             }
@@ -373,12 +377,13 @@ public final class Stepsdown {
 
         /** A copy that takes no more room than it needs: for what is kept. */
         Terms exact() {
-            int used = endOf(count - 1);
-            Terms made = new Terms(used, count);
+            int used = Math.min(endOf(count - 1), digits.length);
+            int many = Math.min(count, ends.length);
+            Terms made = new Terms(used, many);
             made.isBelow = isBelow;
-            made.count = count;
+            made.count = many;
             System.arraycopy(digits, 0, made.digits, 0, used);
-            System.arraycopy(ends, 0, made.ends, 0, count);
+            System.arraycopy(ends, 0, made.ends, 0, many);
             return made;
         }
 
@@ -575,7 +580,9 @@ public final class Stepsdown {
             int turn = a * d - b * c;
             isRoot = row.isRoot;
             if (isRoot) {
-                mapRoot(row, a, b, c, d);
+                weigh(q, row, d * d, 2 * c * d, -c * c);
+                weigh(p, row, b * d, a * d + b * c, -a * c);
+                weigh(r, row, -b * b, -2 * a * b, a * a);
                 reduce(turn * turn, turn < 0);
                 findRoot();
                 return true;
@@ -594,12 +601,7 @@ public final class Stepsdown {
             to.sumOf(left, right);
         }
 
-        private void mapRoot(Row row, int a, int b, int c, int d) {
-            weigh(q, row, d * d, 2 * c * d, -c * c);
-            weigh(p, row, b * d, a * d + b * c, -a * c);
-            weigh(r, row, -b * b, -2 * a * b, a * a);
-        }
-
+        /** Sets to to so many times row's q, p and r together. */
         private void weigh(Big to, Row row, int ofQ, int ofP, int ofR) {
             left.timesOf(row.q, ofQ);
             right.timesOf(row.p, ofP);
@@ -676,7 +678,7 @@ public final class Stepsdown {
             p.setTo(left);
         }
 
-        /** Whether the number is above 1 and its twin, with the root taken off, between -1 and 0: its TERMS repeat from the first on. */
+        /** Whether the TERMS repeat from the first on: the number is above 1, that with -root between -1 and 0. */
         private boolean isPure() {
             if (q.isZero() || q.isBelow || p.order(root) > 0) {
                 return false;
@@ -913,26 +915,17 @@ public final class Stepsdown {
         void startAt(Row row, int k) {
             start();
             for (int next = 0; next <= k; next++) {
-                addOf(row, next);
+                row.read(next, term);
+                add(term);
             }
         }
 
-        void addOf(Row row, int k) {
-            row.read(k, term);
-            addTerm();
-        }
-
-        void addSmall(long told) {
-            term.setLong(told);
-            addTerm();
-        }
-
-        private void addTerm() {
-            work.productOf(term, p);
+        void add(Big told) {
+            work.productOf(told, p);
             work.sumOf(work, pBefore);
             pBefore.setTo(p);
             p.setTo(work);
-            work.productOf(term, q);
+            work.productOf(told, q);
             work.sumOf(work, qBefore);
             qBefore.setTo(q);
             q.setTo(work);
@@ -1150,7 +1143,6 @@ public final class Stepsdown {
     private final RootWalk walk = new RootWalk();
     private final Big left = new Big(64);
     private final Big right = new Big(64);
-    private final Big work = new Big(64);
     private final StringBuilder text = new StringBuilder();
 
     public Stepsdown() {
@@ -1202,7 +1194,8 @@ public final class Stepsdown {
         demandRoom();
         climb.start();
         for (int k = 0; k < now.toldCount; k++) {
-            climb.addSmall(now.toldAt(k));
+            left.setLong(now.toldAt(k));
+            climb.add(left);
         }
         descent.startPair(climb.p, climb.q);
         int number = keep(descent.makeRow());
@@ -1481,7 +1474,7 @@ public final class Stepsdown {
         return orderOf(rowAt(row), rowAt(other));
     }
 
-    /** Orders two numbers by their TERMS: of the first two that differ the greater one lifts, at each second place it lowers. */
+    /** Orders by the first TERMS that differ: a greater one makes the number greater, at each second place less. */
     private static int orderOf(Row row, Row other) {
         int most = row.held() + other.held();
         for (int k = 0; k <= most; k++) {
@@ -1608,7 +1601,8 @@ public final class Stepsdown {
         climb.start();
         walk.start(d);
         for (int next = 0; next <= place; next++) {
-            climb.addSmall(walk.term);
+            left.setLong(walk.term);
+            climb.add(left);
             walk.goOn(next);
         }
         text.setLength(0);
@@ -1622,7 +1616,8 @@ public final class Stepsdown {
         climb.start();
         walk.start(d);
         for (int k = 0; k < RootWalk.MOST_STEPS && climb.q.decimals() <= digits; k++) {
-            climb.addSmall(walk.term);
+            left.setLong(walk.term);
+            climb.add(left);
             walk.goOn(k);
             if (walk.norm == n && climb.q.decimals() <= digits) {
                 many++;
@@ -1661,8 +1656,17 @@ public final class Stepsdown {
     public boolean isSound() {
         for (int row = 0; row < now.rowCount; row++) {
             Row one = now.rowAt(row);
-            if (one == null || !areConvergentsSound(one) || !areTermsOwn(one) || !areBestSound(one)) {
+            if (one == null || !areConvergentsSound(one) || orderOf(one, one) != 0) {
                 return false;
+            }
+            if (!descent.startMapped(one, 1, 0, 0, 1) || !isOwnDescent(one)) {
+                return false;
+            }
+            for (int kind = 0; kind <= 1; kind++) {
+                bracket.seekBest(one, 50, kind);
+                if (!isOnTheWay(one, kind)) {
+                    return false;
+                }
             }
         }
         return areAnswersSound(7) && areAnswersSound(13);
@@ -1672,32 +1676,34 @@ public final class Stepsdown {
         climb.start();
         for (int k = 0; k <= 12 && row.has(k); k++) {
             int turn = k % 2 == 0 ? 1 : -1;
-            climb.addOf(row, k);
+            row.read(k, left);
+            climb.add(left);
             int side = descent.sideOf(row, climb.p, climb.q);
             if (climb.crossing() != -turn || side != (row.isLast(k) ? 0 : turn)) {
                 return false;
             }
-            if (k > 0 && !isCloser(row, turn)) {
-                return false;
+            if (k > 0) {
+                // The last CONVERGENT is less far from x than the one ahead if x is on its side of their middle.
+                findMiddle();
+                if (descent.sideOf(row, left, right) != -turn) {
+                    return false;
+                }
             }
         }
         return true;
     }
 
-    /** Whether the number lies on the last CONVERGENT's side of the middle between that and the one ahead. */
-    private boolean isCloser(Row row, int turn) {
+    /** Sets left / right to the middle of the last two CONVERGENTS. */
+    private void findMiddle() {
         left.productOf(climb.p, climb.qBefore);
         right.productOf(climb.pBefore, climb.q);
         left.sumOf(left, right);
         right.productOf(climb.q, climb.qBefore);
         right.sumOf(right, right);
-        return descent.sideOf(row, left, right) == -turn;
     }
 
-    private boolean areTermsOwn(Row row) {
-        if (!descent.startMapped(row, 1, 0, 0, 1)) {
-            return false;
-        }
+    /** Whether the first 9 TERMS of the descent that was started are the ROW's. */
+    private boolean isOwnDescent(Row row) {
         for (int k = 0; k < 9 && row.has(k); k++) {
             if (descent.isOver()) {
                 return false;
@@ -1708,18 +1714,13 @@ public final class Stepsdown {
                 return false;
             }
         }
-        return (row.has(9) || descent.isOver()) && orderOf(row, row) == 0;
+        return row.has(9) || descent.isOver();
     }
 
-    private boolean areBestSound(Row row) {
-        bracket.seekBest(row, 50, 1);
-        boolean isOne = isOnTheWay(row, bracket.bestOver, bracket.bestUnder, 1);
-        bracket.seekBest(row, 50, 0);
-        return isOne && isOnTheWay(row, bracket.bestOver, bracket.bestUnder, 0);
-    }
-
-    /** Whether over / under, and TERM 0, is a CONVERGENT, or with KIND 0 lies between two; under is at most 50. */
-    private static boolean isOnTheWay(Row row, long over, long under, int kind) {
+    /** Whether BEST that the bracket has found, up to 50, is a CONVERGENT, or with KIND 0 lies between two. */
+    private boolean isOnTheWay(Row row, int kind) {
+        long over = bracket.bestOver;
+        long under = bracket.bestUnder;
         long top = 0;
         long bottom = 1;
         long topBefore = 1;
