@@ -774,7 +774,7 @@ public final class Stepsdown {
         private long under;
         private long otherOver;
         private long otherUnder;
-        private boolean isExact;
+        private boolean isMet;
         private boolean isLow;
         private long bestOver;
         private long bestUnder;
@@ -785,10 +785,10 @@ public final class Stepsdown {
             over = 0;
             under = 1;
             isLow = true;
-            isExact = !row.has(1);
+            isMet = !row.has(1);
             long overBefore = 1;
             long underBefore = 0;
-            for (int k = 1; k <= LAST_TERM && !isExact; k++) {
+            for (int k = 1; k <= LAST_TERM && !isMet; k++) {
                 // A TERM above the bound does as the bound does: both lead past it.
                 long term = row.small(k, bound + 1);
                 long nextUnder = term * under + underBefore;
@@ -801,7 +801,7 @@ public final class Stepsdown {
                 over = nextOver;
                 under = nextUnder;
                 isLow = !isLow;
-                isExact = !row.has(k + 1);
+                isMet = !row.has(k + 1);
             }
             long many = under <= 0 ? 0 : (bound - underBefore) / under;
             otherOver = overBefore + many * over;
@@ -810,7 +810,7 @@ public final class Stepsdown {
 
         /** FLOOR of k * y, k from 0 to the bound. */
         long floorTimes(long k) {
-            boolean isOwn = isExact || isLow;
+            boolean isOwn = isMet || isLow;
             long lowOver = isOwn ? over : otherOver;
             long lowUnder = isOwn ? under : otherUnder;
             return lowUnder <= 0 ? 0 : k * lowOver / lowUnder;
@@ -818,7 +818,7 @@ public final class Stepsdown {
 
         /** The least whole number not below k * y, k from 0 to the bound. */
         long ceilTimes(long k) {
-            boolean isOwn = isExact || !isLow;
+            boolean isOwn = isMet || !isLow;
             long highOver = isOwn ? over : otherOver;
             long highUnder = isOwn ? under : otherUnder;
             return highUnder <= 0 ? 0 : (k * highOver + highUnder - 1) / highUnder;
@@ -829,11 +829,11 @@ public final class Stepsdown {
             if (u < 0 || u >= v) {
                 return u < 0 ? 1 : -1;
             }
-            boolean isOwn = isExact || isLow;
+            boolean isOwn = isMet || isLow;
             long left = u * (isOwn ? under : otherUnder);
             long right = v * (isOwn ? over : otherOver);
             if (left == right) {
-                return isExact ? 0 : 1;
+                return isMet ? 0 : 1;
             }
             return left < right ? 1 : -1;
         }
@@ -858,7 +858,7 @@ public final class Stepsdown {
             narrow(row, bound);
             bestOver = over;
             bestUnder = under;
-            if (kind == 1 || isExact) {
+            if (kind == 1 || isMet) {
                 return;
             }
             // The fraction on the other side is nearer if y is on its side of the middle of both.
