@@ -14,10 +14,10 @@ public final class OracleTest {
     private static int calls = 0;
 
     public static void main(String[] args) {
-        int runs = args.length > 0 ? Integer.parseInt(args[0]) : 60;
+        int runs = args.length > 0 ? Integer.parseInt(args[0]) : 54;
         int seed = args.length > 1 ? Integer.parseInt(args[1]) : 1;
         for (int run = 0; run < runs && wrong < 20; run++) {
-            oneRun(new Random(seed * 1000003L + run), run % 8);
+            oneRun(new Random(seed * 1000003L + run), run % 9);
         }
         System.out.println(calls + " calls, " + wrong + " wrong answers");
         System.exit(wrong == 0 ? 0 : 1);
@@ -129,9 +129,11 @@ public final class OracleTest {
             -10, 40, 41, 60, 61, 99, -99, 100, -100, 199, 200, 999, 1000, 9998, 9999, 10000, 9900, 9901, 1000003, 1000004,
             99999, 100000, -99999, 999999, 1000000, -999999, -1000000, 20, 21, 24, 25, 120, 121};
 
+        private static final int[] GOLDEN = {1, 2, 2, 2, 2, 3, 3, 5, 7, 11, 23, 31, 41, 61, 47};
+
         static String pick(Random random, int style, Model model) {
             int making = style >= 6 ? 85 : style == 1 ? 70 : style == 5 ? 15 : 35;
-            if (model.rows.isEmpty() && random.nextInt(3) > 0) {
+            if (style < 8 && model.rows.isEmpty() && random.nextInt(3) > 0) {
                 return random.nextBoolean() ? "root" : "fraction";
             }
             if (random.nextInt(100) >= making) {
@@ -139,6 +141,9 @@ public final class OracleTest {
             }
             if (style == 2) {
                 return random.nextInt(3) > 0 ? "map" : "remove";
+            }
+            if (style == 8 && model.rows.isEmpty()) {
+                return "root";
             }
             if (style >= 6) {
                 int rows = model.rows.size();
@@ -210,8 +215,25 @@ public final class OracleTest {
             return given;
         }
 
+        /** Makes the root's d so many times as great, squared, or as small; these leave the rows of the golden one short. */
+        private static int[] turning(Random random, int turn, int last) {
+            for (int guess = 0; guess < 1000000; guess++) {
+                int a = within(random, -9, 9);
+                int b = within(random, -9, 9);
+                int c = random.nextInt(3) == 0 ? 0 : within(random, -9, 9);
+                int d = within(random, -9, 9);
+                if (Math.abs(a * d - b * c) == turn) {
+                    return new int[] {last, a, b, c, d, random.nextInt(21)};
+                }
+            }
+            throw new IllegalStateException("no such map: " + turn);
+        }
+
         /** Maps that make the numbers great and keep their rows short. */
         private static int[] towering(Random random, int style, int last) {
+            if (style == 8) {
+                return turning(random, GOLDEN[random.nextInt(GOLDEN.length)], last);
+            }
             int[][] some = {{9, 0, 0, 1}, {1, 9, 0, 1}, {9, 0, 0, 1}, {9, 9, 0, 1}, {0, 1, 1, 0}, {-1, 0, 0, 1}, {0, 1, 1, 9}};
             int pick = style == 6 ? random.nextInt(random.nextInt(30) == 0 ? 7 : 4) : random.nextInt(20) == 0 ? 4 : 1;
             int[] one = some[random.nextInt(40) == 0 ? random.nextInt(7) : pick];
@@ -220,7 +242,8 @@ public final class OracleTest {
 
         private static int[] near(Random random, Model model, int row, int most) {
             if (row < 0 || row >= model.rows.size() || random.nextInt(4) == 0) {
-                return new int[] {within(random, -9999, 9999), random.nextInt(200)};
+                return random.nextBoolean() ? new int[] {within(random, -9999, 9999), random.nextInt(200)}
+                        : new int[] {within(random, -999999, 999999), random.nextInt(10000)};
             }
             int b = small(random, most);
             Num x = model.rows.get(row).number;
@@ -231,6 +254,18 @@ public final class OracleTest {
             return new int[] {a.intValue(), b};
         }
 
+        /** A fraction about as far from x as the one given, on the other side. */
+        private static int[] mirrored(Random random, Model model, int row, int[] one) {
+            int d = small(random, 9999);
+            if (row < 0 || row >= model.rows.size() || one[1] <= 0) {
+                return new int[] {1, d};
+            }
+            Num x = model.rows.get(row).number;
+            BigInteger c = x.times(2).minus(Num.of(one[0], one[1], x.d)).times(d).floor();
+            BigInteger more = c.add(BigInteger.valueOf(within(random, 0, 1)));
+            return new int[] {more.bitLength() > 19 ? 7 : more.intValue(), d};
+        }
+
         private static int[] usual(Random random, int style, String name, Model model) {
             int row = row(random, model);
             int[] near = near(random, model, row, 9999);
@@ -239,7 +274,7 @@ public final class OracleTest {
                     return random.nextBoolean() ? new int[] {within(random, -99999, 99999), within(random, -9999, 9999)}
                             : new int[] {within(random, -30, 400), within(random, -12, 12)};
                 case "root":
-                    return random.nextBoolean() ? new int[] {within(random, -99, 99), free(random), within(random, -6, 6)}
+                    return style == 8 ? new int[] {1, 5, 2} : random.nextBoolean() ? new int[] {within(random, -99, 99), free(random), within(random, -6, 6)}
                             : new int[] {within(random, -2, 9), free(random), 1};
                 case "push":
                     return new int[] {random.nextInt(3) == 0 ? within(random, -99, 99) : within(random, 1, 4)};
@@ -274,7 +309,8 @@ public final class OracleTest {
                 }
                 case "bests": return new int[] {row, within(random, 1, 60), random.nextInt(2)};
                 case "nearer": {
-                    int[] other = near(random, model, row, 200);
+                    int[] other = random.nextBoolean() ? near(random, model, row, 200)
+                            : mirrored(random, model, row, near);
                     return new int[] {row, near[0], near[1], other[0], other[1]};
                 }
                 case "against": return new int[] {row, near[0], near[1]};

@@ -759,6 +759,7 @@ public final class PromisesTest {
         due("8119/5741 and 3363/2378", -1, x.nearer(1, 8119, 5741, 3363, 2378));
         due("-1 and 3 to the root of 2", 1, x.nearer(1, -1, 1, 3, 1));
         due("999999/9999 and -999999/9999", -1, x.nearer(1, 999999, 9999, -999999, 9999));
+        nearerFarOff();
         due("b 0", -9, x.nearer(0, 1, 0, 1, 1));
         due("d 0", -9, x.nearer(0, 1, 1, 1, 0));
         failsAlone("nearer to no row", PLACE, x, () -> x.nearer(2, 1000000, 0, 0, 0));
@@ -770,6 +771,27 @@ public final class PromisesTest {
         failsAlone("nearer b above", RANGE, x, () -> x.nearer(0, 0, 10000, 0, 1));
         failsAlone("nearer d below", RANGE, x, () -> x.nearer(0, 0, 1, 0, -1));
         failsAlone("nearer d above", RANGE, x, () -> x.nearer(0, 0, 1, 0, 10000));
+    }
+
+    /** Numbers far above and far below all that the call can tell. */
+    private static void nearerFarOff() {
+        Stepsdown x = drafted(99, 1, 2, 3, 4, 5, 6, 7, 8, 9, 10, 11, 12);
+        x.finish();
+        for (int many = 0; many < 12; many++) {
+            x.map(0, 9, 0, 0, 1);
+            x.remove(0);
+        }
+        x.map(0, -1, 0, 0, 1);
+        due("far above", 1, x.nearer(0, 999998, 9999, 999999, 9998));
+        due("far above, turned", -1, x.nearer(0, 999999, 9998, 999998, 9999));
+        due("far below", -1, x.nearer(1, 999998, 9999, 999999, 9998));
+        due("far above the greatest", 1, x.against(0, 999999, 1));
+        due("far below the least", -1, x.against(1, -999999, 1));
+        due("far above all gears", 40, x.gears(0, 39, 40, false));
+        due("far above all gears, b", 39, x.gears(0, 39, 40, true));
+        due("far below all gears", 39, x.gears(1, 39, 40, false));
+        due("far below all gears, b", 40, x.gears(1, 39, 40, true));
+        due("never the best", false, x.isBest(0, 999999, 9999, 0));
     }
 
     private static void promise26() {
@@ -826,11 +848,31 @@ public final class PromisesTest {
         x.root(0, 2, 1);
         due("a of gears for the root of 2", 17, x.gears(4, 12, 20, false));
         due("b of gears for the root of 2", 12, x.gears(4, 12, 20, true));
+        gearsNearMiddles();
         failsAlone("gears of no row", PLACE, x, () -> x.gears(5, 0, 0, true));
         failsAlone("gears from 0", RANGE, x, () -> x.gears(0, 0, 5, true));
         failsAlone("gears from 41", RANGE, x, () -> x.gears(0, 41, 41, true));
         failsAlone("gears to less", RANGE, x, () -> x.gears(0, 5, 4, true));
         failsAlone("gears to 41", RANGE, x, () -> x.gears(0, 5, 41, true));
+    }
+
+    /** 3041/2964, with the terms 1 38 2 38, is the middle of 40/39 and 39/38. */
+    private static void gearsNearMiddles() {
+        Stepsdown x = drafted(1, 38, 2, 38);
+        x.finish();
+        due("a of gears for the middle", 39, x.gears(0, 38, 40, false));
+        due("b of gears for the middle", 38, x.gears(0, 38, 40, true));
+        due("the middle itself", 0, x.nearer(0, 40, 39, 39, 38));
+        Stepsdown below = drafted(1, 38, 2, 38, 99, 99, 99);
+        below.finish();
+        due("a of gears a little below", 40, below.gears(0, 38, 40, false));
+        due("b of gears a little below", 39, below.gears(0, 38, 40, true));
+        due("a little below", -1, below.nearer(0, 40, 39, 39, 38));
+        Stepsdown above = drafted(1, 38, 2, 37, 1, 99, 99, 99);
+        above.finish();
+        due("a of gears a little above", 39, above.gears(0, 38, 40, false));
+        due("b of gears a little above", 38, above.gears(0, 38, 40, true));
+        due("a little above", 1, above.nearer(0, 40, 39, 39, 38));
     }
 
     private static void fences() {
