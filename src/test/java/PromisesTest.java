@@ -805,6 +805,8 @@ public final class PromisesTest {
         due("root of 2 against 577/408", -1, x.against(1, 577, 408));
         due("root of 2 against -999999", 1, x.against(1, -999999, 1));
         due("root of 2 against 999999", -1, x.against(1, 999999, 1));
+        due("root of 2 against 14140/9999", 1, x.against(1, 14140, 9999));
+        due("root of 2 against 14141/9999", -1, x.against(1, 14141, 9999));
         due("b 0", -9, x.against(1, 5, 0));
         failsAlone("against of no row", PLACE, x, () -> x.against(2, 1000000, 0));
         failsAlone("against a above", RANGE, x, () -> x.against(0, 1000000, 0));
@@ -1073,6 +1075,13 @@ public final class PromisesTest {
         y.calendar(1, 1);
         y.remove(1);
         due("drift 1 of 10/3 by 3", -34, y.drift(1));
+        Stepsdown small = house(1, 100, 1, 9999);
+        small.calendar(0, 1);
+        due("drift 1 of 1/100 by 0", -1, small.drift(1));
+        due("drift 99 of 1/100 by 0", -99, small.drift(99));
+        small.calendar(1, 1);
+        due("drift 99 of 1/9999 by 0", -1, small.drift(99));
+        due("drift 100 of 1/9999 by 0", -2, small.drift(100));
         failsAlone("drift -1", RANGE, x, () -> x.drift(-1));
         failsAlone("drift 10000", RANGE, x, () -> x.drift(10000));
         Stepsdown none = new Stepsdown();
@@ -1113,6 +1122,7 @@ public final class PromisesTest {
         failsAlone(what + " n 65536", RANGE, x, () -> call.apply(199, 65536));
         failsAlone(what + " n least", RANGE, x, () -> call.apply(199, LEAST));
         call.apply(199, 14);
+        call.apply(199, -14);
         call.apply(2, -1);
     }
 
