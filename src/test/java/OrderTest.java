@@ -66,14 +66,17 @@ public final class OrderTest {
         text.append(x.digest()).append(" knocks ").append(x.house(3));
         for (int left = x.house(2); left >= 0; left--) {
             text.append(" | ").append(left).append(" rows");
-            for (int row = 0; row < x.house(0); row++) {
+            int rows = x.house(0);
+            int terms = x.house(1);
+            int calendars = x.house(4);
+            for (int row = 0; row < rows; row++) {
                 text.append(' ').append(x.terms(row)).append(';');
             }
             text.append(" draft");
-            for (int k = 0; k < x.house(1); k++) {
+            for (int k = 0; k < terms; k++) {
                 text.append(' ').append(x.draft(k));
             }
-            for (int what = 0; what <= 2 && x.house(4) == 1; what++) {
+            for (int what = 0; what <= 2 && calendars == 1; what++) {
                 text.append(" calendar ").append(x.ofCalendar(what));
             }
             if (left > 0) {

@@ -15,6 +15,8 @@ public final class SectionsTest {
     public static void main(String[] args) {
         head();
         lastCalls();
+        greatFractions();
+        greatRoots();
         rowsAreNumberedAsTheyCame();
         rowsNeverChange();
         oneRowOfTermsForEachNumber();
@@ -24,6 +26,7 @@ public final class SectionsTest {
         draftsThatEndWithOne();
         draftsThatBeginAgain();
         convergents();
+        sidesOfRootsOverLessThanZero();
         tiesOfKindZero();
         tiesOfKindOne();
         kinds();
@@ -34,6 +37,8 @@ public final class SectionsTest {
         fences();
         calendars();
         calendarsStay();
+        driftsOfFractions();
+        driftsOfRoots();
         calendarsWithDaysOfNone();
         answersByTryingAll();
         answersThatAreNone();
@@ -89,7 +94,8 @@ public final class SectionsTest {
 
     private static String rows(Stepsdown x) {
         StringBuilder text = new StringBuilder();
-        for (int row = 0; row < x.house(0); row++) {
+        int rows = x.house(0);
+        for (int row = 0; row < rows; row++) {
             text.append(x.terms(row)).append(';');
         }
         return text.toString();
@@ -97,7 +103,8 @@ public final class SectionsTest {
 
     private static String draft(Stepsdown x) {
         StringBuilder text = new StringBuilder();
-        for (int k = 0; k < x.house(1); k++) {
+        int terms = x.house(1);
+        for (int k = 0; k < terms; k++) {
             text.append(x.draft(k)).append(' ');
         }
         return text.toString();
@@ -173,6 +180,77 @@ public final class SectionsTest {
         long first = same.digest();
         for (int call = 4; call <= 512; call++) {
             due("digest", first, same.digest());
+        }
+    }
+
+    /** The TERMS of over / under by Euclid's way; under is above 0. */
+    private static String euclid(BigInteger over, BigInteger under) {
+        StringBuilder text = new StringBuilder();
+        BigInteger p = over;
+        BigInteger q = under;
+        while (q.signum() != 0) {
+            BigInteger rest = p.mod(q);
+            text.append(text.length() > 0 ? " " : "").append(p.subtract(rest).divide(q));
+            p = q;
+            q = rest;
+        }
+        return text.toString();
+    }
+
+    /** Whole numbers of any size: a fraction of 48 digits and more, mapped again and again. */
+    private static void greatFractions() {
+        Stepsdown x = new Stepsdown();
+        BigInteger p = BigInteger.ONE;
+        BigInteger q = BigInteger.ZERO;
+        for (int k = 0; k < 24; k++) {
+            x.push(99 - k % 3);
+        }
+        for (int k = 23; k >= 0; k--) {
+            BigInteger next = p.multiply(BigInteger.valueOf(99 - k % 3)).add(q);
+            q = p;
+            p = next;
+        }
+        x.finish();
+        int[][] maps = {{2, 0, 0, 1}, {-3, 7, 1, 9}, {9, -8, 0, 5}, {1, 1, -7, 2}, {0, 5, 3, 1}, {8, 9, 1, 1}, {-1, 0, 0, 9}};
+        for (int[] map : maps) {
+            due("terms of a great fraction", euclid(p, q), x.terms(0));
+            int last = x.ofRow(0, 1) - 1;
+            due("its last CONVERGENT is it", 0, last > 60 ? 0 : x.side(0, last));
+            due("it is sound", true, x.isSound());
+            due("a map of it", 1, x.map(0, map[0], map[1], map[2], map[3]));
+            BigInteger over = p.multiply(BigInteger.valueOf(map[0])).add(q.multiply(BigInteger.valueOf(map[1])));
+            BigInteger under = p.multiply(BigInteger.valueOf(map[2])).add(q.multiply(BigInteger.valueOf(map[3])));
+            p = under.signum() < 0 ? over.negate() : over;
+            q = under.abs();
+            due("and back", 2, x.map(1, map[3], -map[1], -map[2], map[0]));
+            due("is the same", 0, x.compare(0, 2));
+            x.remove(0);
+            x.remove(1);
+        }
+        due("terms of a great fraction", euclid(p, q), x.terms(0));
+    }
+
+    /** From (1 + root of 5) / 2 to a number with a root of 24 digits, whose row stays short. */
+    private static void greatRoots() {
+        int[][] maps = {{-7, -6, 2, -7}, {1, 6, -9, -7}, {-7, -1, -1, -6}, {1, 5, -6, 1}, {7, 8, -5, -9}, {-3, 1, 7, -6},
+            {-7, -7, -2, -3}, {-5, -3, 0, 1}, {-3, -9, 0, 1}, {-3, 9, -2, 5}};
+        Stepsdown x = rooted(1, 5, 2);
+        for (int[] map : maps) {
+            due("a map of it", 1, x.map(0, map[0], map[1], map[2], map[3]));
+            due("and back", 2, x.map(1, map[3], -map[1], -map[2], map[0]));
+            due("is the same", 0, x.compare(0, 2));
+            x.remove(0);
+            x.remove(1);
+            due("it is sound", true, x.isSound());
+        }
+        due("terms", "1 2 8 1 3 698 (12 1 4 2 33 6 9 3 11 4 1 8 1 6 3 1 1 1 3 3 2 13 2 1 27 2 1 6 1 1 6 1 2 3 2 5 1 4 7 12 39 2 8"
+                + " 1 2 2 2 9 1 9 1 1 1 2 2 3 4 2 3 1 1 1 1 15 4 3 4 3 1 1 1 1 8 1 3 1 1 7 1 1 1 2 3 1 239 2 9 2 1 9 1 1 4 697)",
+                x.terms(0));
+        due("it stays the same, mapped by 1", 1, x.map(0, 1, 0, 0, 1));
+        due("and compared", 0, x.compare(0, 1));
+        for (int k = 0; k <= 60; k++) {
+            due("side " + k, k % 2 == 0 ? 1 : -1, x.side(0, k));
+            due("cross " + k, k % 2 == 0 ? -1 : 1, x.cross(0, k));
         }
     }
 
@@ -428,6 +506,21 @@ public final class SectionsTest {
         fails("CONVERGENT 61", IndexOutOfBoundsException.class, r, h -> h.convergentText(0, 61));
     }
 
+    private static void sidesOfRootsOverLessThanZero() {
+        int[] radicands = {2, 3, 5, 7};
+        for (int d : radicands) {
+            for (int q = -6; q <= 6; q++) {
+                for (int p = -7; p <= 7 && q != 0; p++) {
+                    Stepsdown x = rooted(p, d, q);
+                    for (int k = 0; k <= 8; k++) {
+                        due("side " + k + " of " + p + " " + d + " " + q, k % 2 == 0 ? 1 : -1, x.side(0, k));
+                    }
+                    due("it is sound", true, x.isSound());
+                }
+            }
+        }
+    }
+
     // 3. Best fractions
 
     private static void tied(String want, Stepsdown x, int most, int kind) {
@@ -615,6 +708,16 @@ public final class SectionsTest {
                 due("tails of " + row + " and " + other, isSame, x.sameTail(row, other));
             }
         }
+        Stepsdown ones = rooted(1, 5, 2);
+        ones.root(0, 2, 1);
+        ones.root(0, 5, 1);
+        ones.root(3, 5, 2);
+        String[] tails = {"1", "2", "4", "1"};
+        for (int row = 0; row < 4; row++) {
+            for (int other = 0; other < 4; other++) {
+                due("tails of a PERIOD of 1", tails[row].equals(tails[other]), ones.sameTail(row, other));
+            }
+        }
         Stepsdown turned = rooted(0, 61, 1);
         turned.map(0, 1, 7, 0, 1);
         turned.map(0, 0, 1, 1, 0);
@@ -726,6 +829,42 @@ public final class SectionsTest {
         due("the house has it", 1, x.house(4));
     }
 
+    private static void driftsOfFractions() {
+        int[] years = {0, 1, 2, 3, 7, 12, 13, 99, 100, 101, 9998, 9999};
+        for (int q = 1; q <= 12; q++) {
+            for (int p = 0; p <= 2 * q; p++) {
+                Stepsdown x = house(p, q);
+                for (int most = 1; most <= q; most += 1 + most / 3) {
+                    x.calendar(0, most);
+                    for (int year : years) {
+                        int ahead = x.days(year) * q - p * year;
+                        due("drift of " + p + "/" + q, Math.floorDiv(100 * ahead, q), x.drift(year));
+                    }
+                }
+            }
+        }
+    }
+
+    private static void driftsOfRoots() {
+        int[] years = {1, 2, 3, 5, 8, 57, 1000, 9999};
+        for (int d = 2; d <= 199; d++) {
+            int floor = (int) Math.sqrt(d);
+            if (floor * floor == d) {
+                continue;
+            }
+            for (int most = 1; most <= 5; most++) {
+                Stepsdown x = rooted(0, d, 1);
+                x.calendar(0, most);
+                due("drift of year 0", 0, x.drift(0));
+                for (int year : years) {
+                    // 100 times the root of d, year times, is not whole.
+                    BigInteger square = BigInteger.valueOf(10000L * year * year).multiply(BigInteger.valueOf(d));
+                    due("drift of the root of " + d, 100 * x.days(year) - square.sqrt().intValue() - 1, x.drift(year));
+                }
+            }
+        }
+    }
+
     private static void calendarsWithDaysOfNone() {
         Stepsdown x = house(0, 1, 1, 4, 9999, 10000 - 1);
         x.calendar(0, 9);
@@ -765,6 +904,8 @@ public final class SectionsTest {
                     && BigInteger.valueOf(root).gcd(BigInteger.valueOf(y)).intValue() == 1;
             if (isAnswer && number <= 8) {
                 due("ANSWER " + number + " of " + d + " " + n, root + "," + y, x.answerText(d, n, number));
+                due("x of it", (int) (root % BY), x.answer(d, n, number, false, BY));
+                due("y of it", (int) (y % 10), x.answer(d, n, number, true, 10));
             }
             number += isAnswer ? 1 : 0;
         }
@@ -902,7 +1043,8 @@ public final class SectionsTest {
         for (int what = 0; what <= 4; what++) {
             all.add((long) x.house(what));
         }
-        for (int k = 0; k < x.house(1); k++) {
+        int terms = x.house(1);
+        for (int k = 0; k < terms; k++) {
             all.add((long) x.draft(k));
         }
         int rows = x.house(0);
@@ -963,27 +1105,29 @@ public final class SectionsTest {
             drafted.push(term);
         }
         summed("a full draft", drafted, true);
-        Stepsdown x = house(1, 2, -7, 1, 99999, 9998, 0, 1);
-        summed("fractions", x, true);
-        x.root(0, 199, 1);
-        x.root(-99, 2, 6);
-        x.push(-5);
-        x.knock();
-        summed("fractions and roots", x, true);
-        x.calendar(4, 33);
-        x.map(5, -9, 7, 0, 1);
-        summed("with a calendar", x, true);
-        x.remove(4);
-        x.finish();
-        x.fraction(-99999, 9998);
-        summed("a full house", x, true);
-        Stepsdown terms = finished(1, 2, 3, 4, 5, 6, 7, 8);
-        terms.map(0, 1, 0, 0, 1);
-        summed("eight terms", terms, true);
         summed("seven terms", finished(-1, 2, 3, 4, 5, 6, 7), true);
+        summed("eight terms", finished(1, 2, 3, 4, 5, 6, 7, 8), true);
         summed("nine terms", finished(1, 2, 3, 4, 5, 6, 7, 8, 9), true);
+        summed("BEST up to 100", house(1, 99, 1, 100, 1, 101, 2, 201, 2, 199), true);
+        summed("STEP 20", house(1, 20, 1, 21, 1, 22, 20, 21, 1, 2), true);
         Stepsdown few = house(0, 1);
         few.calendar(0, 1);
         summed("years without days", few, true);
+        digestsOnTheWay();
+    }
+
+    /** After each change of a way to a full house and back, each time with a fresh object. */
+    private static void digestsOnTheWay() {
+        Change[] way = {x -> x.fraction(1, 2), x -> x.fraction(-7, 1), x -> x.fraction(99999, 9998), x -> x.fraction(0, 1),
+            x -> x.root(0, 199, 1), x -> x.root(-99, 2, 6), x -> x.push(-5), x -> x.knock(), x -> x.calendar(4, 33),
+            x -> x.map(5, -9, 7, 0, 1), x -> x.remove(4), x -> x.finish(), x -> x.fraction(-99999, 9998), x -> x.undo(),
+            x -> x.undo(), x -> x.remove(0), x -> x.calendar(1, 9), x -> x.undo(), x -> x.undo()};
+        for (int stage = 1; stage <= way.length; stage++) {
+            Stepsdown x = new Stepsdown();
+            for (int step = 0; step < stage; step++) {
+                way[step].to(x);
+            }
+            summed("stage " + stage, x, true);
+        }
     }
 }
